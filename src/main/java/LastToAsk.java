@@ -552,7 +552,7 @@ public final class LastToAsk {
         private final int[] lastDay = new int[RELATIVE_LIMIT];
         private int relatives;
         private int day;
-        private int askedToday;
+        private boolean askedToday;
         private int owner;
 
         void begin(Family family) {
@@ -562,7 +562,7 @@ public final class LastToAsk {
             }
             day = 0;
             // kept apart from lastDay: one told to have asked 0 days ahead has not asked on day 0
-            askedToday = 0;
+            askedToday = false;
             owner = NONE;
         }
 
@@ -594,15 +594,15 @@ public final class LastToAsk {
         void ask(int i) {
             if (i >= 0 && i < relatives) {
                 lastDay[i] = day;
-                askedToday |= 1 << i;
+                askedToday = true;
             }
         }
 
         void passNoon() {
-            if (askedToday != 0) {
+            if (askedToday) {
                 owner = longestIf(0);
             }
-            askedToday = 0;
+            askedToday = false;
             day++;
         }
 
@@ -632,7 +632,7 @@ public final class LastToAsk {
         int fewestFor(int i) {
             int fewest = NONE;
             for (int askers = 0; askers < 1 << relatives && askers < SETS_OF_RELATIVES; askers++) {
-                boolean somebodyAsked = (askers | askedToday) != 0;
+                boolean somebodyAsked = askedToday || askers != 0;
                 boolean fewer = fewest == NONE || Integer.bitCount(askers) < Integer.bitCount(fewest);
                 if (somebodyAsked && fewer && longestIf(askers) == i) {
                     fewest = askers;

@@ -13,6 +13,7 @@ public final class YearsTest {
         yearsWrong();
         keeping();
         keepingAndUndoing();
+        keepingWhatWasSaid();
         counts();
         CHECK.close();
     }
@@ -223,6 +224,24 @@ public final class YearsTest {
         x.mend(3);
         CHECK.due("undo() of what came behind back()", x.undo(), 0);
         CHECK.due("said, still", x.count(10), 1);
+    }
+
+    /** What was said is kept too, though other things were said instead of it since. */
+    private static void keepingWhatWasSaid() {
+        LastToAsk x = Check.laid("r0,9,0;r0,5,2;s1,1;s2,1;d3;");
+        x.say(0, 0);
+        x.say(0, 1);
+        x.keep();
+        x.undo();
+        x.undo();
+        x.say(1, 1);
+        x.say(1, 1);
+        CHECK.due("noon()", x.noon(), 0);
+        CHECK.due("took(1, 1)", x.took(1, 1), 1);
+        CHECK.due("deeds(0): it was 1 who asked", x.deeds(0), 0);
+        x.back();
+        CHECK.due("deeds(0): it was 0 who asked", x.deeds(0), 48);
+        CHECK.due("deeds(1): it was 0 who asked", x.deeds(1), 1);
     }
 
     private static void counts() {
