@@ -1,18 +1,34 @@
+import java.util.ArrayList;
+import java.util.List;
+
 /** Compares answers with those that are due, and tells of every one that is not. */
 final class Check {
     private final String name;
+    private final List<String> sentences = new ArrayList<>();
+    private String prefix;
     private int compared;
     private int wrong;
 
     Check(String name) {
         this.name = name;
+        prefix = name;
+    }
+
+    /** The sentence of the document by which the answers that follow are due. */
+    void by(String sentence) {
+        sentences.add(sentence);
+        prefix = name + ": <" + sentence + ">";
+    }
+
+    List<String> sentences() {
+        return sentences;
     }
 
     void due(String call, long got, long want) {
         compared++;
         if (got != want) {
             wrong++;
-            System.out.println(name + ": " + call + " answered " + got + ", due is " + want);
+            System.out.println(prefix + ": " + call + " answered " + got + ", due is " + want);
         }
     }
 
@@ -20,7 +36,7 @@ final class Check {
         compared++;
         if (!want.equals(got)) {
             wrong++;
-            System.out.println(name + ": " + call + " gave " + got + ", due is " + want);
+            System.out.println(prefix + ": " + call + " gave " + got + ", due is " + want);
         }
     }
 
@@ -58,6 +74,12 @@ final class Check {
         }
     }
 
+    static void say(LastToAsk x, int i, int s, int many) {
+        for (int k = 0; k < many; k++) {
+            x.say(i, s);
+        }
+    }
+
     /** All that count() and relative() tell, to see that nothing has changed. */
     static String standing(LastToAsk x) {
         StringBuilder all = new StringBuilder();
@@ -70,5 +92,31 @@ final class Check {
             }
         }
         return all.toString();
+    }
+
+    /** What all the calls tell that change nothing: meant for few relatives, for a run has 512 calls at most. */
+    static String everything(LastToAsk x) {
+        StringBuilder all = new StringBuilder(standing(x));
+        int relatives = x.count(0);
+        int sayings = x.count(1);
+        for (int i = 0; i < relatives; i++) {
+            for (int j = 0; j < relatives; j++) {
+                all.append(x.knows(i, j)).append(' ');
+            }
+            for (int s = 0; s < sayings; s++) {
+                all.append(x.asking(s, i)).append(' ');
+            }
+            all.append(x.heir(i)).append(' ').append(x.thinks(i)).append(' ').append(x.make(i)).append(' ')
+                    .append(x.cloak(i, 0)).append(' ').append(x.cloak(i, 1)).append(' ');
+        }
+        for (int s = 0; s < sayings; s++) {
+            all.append(x.saying(s, 0)).append(' ').append(x.saying(s, 1)).append(' ');
+        }
+        for (int what = 0; what <= 1; what++) {
+            all.append(x.byTurns(3, what)).append(' ').append(x.deeds(what)).append(' ')
+                    .append(x.lasts(2, 3, what)).append(' ').append(x.year(77, 9, what)).append(' ');
+        }
+        return all.append(x.fault()).append(' ').append(x.among()).append(' ').append(x.quiet()).append(' ')
+                .append(x.allKnow()).toString();
     }
 }
