@@ -2,7 +2,7 @@ import java.io.IOException;
 import java.nio.file.Files;
 import java.nio.file.Path;
 
-/** What the document says between its terms and what it does not promise, as one line. Run where src is. */
+/** What the document says between its terms and what it does not promise, as one line. Run where src/ is. */
 final class Document {
     private static final Path FILE = Path.of("../shared/DOC.md");
 
@@ -21,6 +21,10 @@ final class Document {
         }
         words = kept.toString().replaceAll("======== \\d ", "").replaceAll("\\s+", " ");
         told = new boolean[words.length()];
+    }
+
+    static boolean isThere() {
+        return Files.isReadable(FILE);
     }
 
     /** Every sentence at the head of a test stands in the document, and none of the document is left. */

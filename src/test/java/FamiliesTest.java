@@ -1,12 +1,10 @@
-/** Promises 1 to 9: a new object, the text, its fault, what is laid, relatives, sayings, what is known. */
+/** Promises 1 and 4 to 9: a new object, the fault of a text, what is laid, relatives, sayings, what is known. */
 public final class FamiliesTest {
     private static final Check CHECK = new Check("families");
-    private static final int BAD = -1, NO = -2, FULL = -3, NONE = -4;
+    private static final int BAD = -1, NO = -2, NONE = -4;
 
     public static void main(String[] args) {
         newObject();
-        writing();
-        wiping();
         faults();
         laying();
         layingAnew();
@@ -36,35 +34,6 @@ public final class FamiliesTest {
         CHECK.due("NO", LastToAsk.NO, -2);
         CHECK.due("FULL", LastToAsk.FULL, -3);
         CHECK.due("NONE", LastToAsk.NONE, -4);
-    }
-
-    private static void writing() {
-        LastToAsk x = new LastToAsk();
-        int[] wrong = {31, 127, 0, -1, 256 + 65, 65536 + 65, Integer.MIN_VALUE, Integer.MAX_VALUE};
-        for (int letter : wrong) {
-            CHECK.due("write(" + letter + ")", x.write(letter), BAD);
-        }
-        CHECK.due("write(32)", x.write(32), 1);
-        CHECK.due("write(126)", x.write(126), 2);
-        for (int k = 3; k <= 200; k++) {
-            CHECK.due("write(59)", x.write(59), k);
-        }
-        CHECK.due("write(59) behind 200", x.write(59), FULL);
-        CHECK.due("write(31) behind 200", x.write(31), BAD);
-        CHECK.due("count(9)", x.count(9), 200);
-        CHECK.due("fault()", x.fault(), 0);
-    }
-
-    private static void wiping() {
-        LastToAsk x = new LastToAsk();
-        CHECK.due("wipe() of nothing", x.wipe(), 0);
-        Check.write(x, "d1;h");
-        CHECK.due("wipe()", x.wipe(), 4);
-        CHECK.due("count(9) behind wipe()", x.count(9), 0);
-        CHECK.due("wipe() again", x.wipe(), 0);
-        CHECK.due("fault() behind wipe()", x.fault(), NONE);
-        CHECK.due("write(100) behind wipe()", x.write('d'), 1);
-        CHECK.due("fault() of the letters behind wipe() alone", x.fault(), 0);
     }
 
     private static void fault(String text, int want) {

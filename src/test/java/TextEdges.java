@@ -195,11 +195,16 @@ final class TextEdges {
         CHECK.due("a hint alone", deedOf("h6;"), 1);
         CHECK.due("two", deedOf("d6;d5;"), 5);
         CHECK.due("three, the last of none", deedOf("d6;d5;h2;d0;"), 0);
-        LastToAsk x = Check.laid("r0,1,1;r0,2,2;s1,1;d7;");
+        CHECK.due("without, behind one of another text", laidBehind("d7;").count(2), 1);
+    }
+
+    /** Laid without a deed and a hint, behind a text that had some. */
+    private static LastToAsk laidBehind(String items) {
+        LastToAsk x = Check.laid("r0,1,1;r0,2,2;s1,1;" + items);
         x.wipe();
         Check.write(x, "r0,1,1;r0,2,2;s1,1;");
         x.lay();
-        CHECK.due("without, behind one of another text", x.count(2), 1);
+        return x;
     }
 
     private static int hintOf(String items) {
@@ -224,11 +229,7 @@ final class TextEdges {
         CHECK.due("a deed alone", hintOf("d5;"), 3);
         CHECK.due("two", hintOf("h6;h1;"), 1);
         CHECK.due("three", hintOf("h1;h2;d1;h6;"), 6);
-        LastToAsk x = Check.laid("r0,1,1;r0,2,2;s1,1;h6;");
-        x.wipe();
-        Check.write(x, "r0,1,1;r0,2,2;s1,1;");
-        x.lay();
-        CHECK.due("without, behind one of another text", x.count(3), 3);
+        CHECK.due("without, behind one of another text", laidBehind("h6;").count(3), 3);
     }
 
     private static void faultPlace() {
